@@ -235,7 +235,7 @@ public final class CutAtlas {
         if (!net.hasPlace(place)) {
             return BAD;
         }
-        growTree();
+        cutTree.grow();
         return what == 0 ? cutTree.nexts[place] : cutTree.numbers[place];
     }
 
@@ -246,7 +246,7 @@ public final class CutAtlas {
         if (!net.hasPair(a, b)) {
             return BAD;
         }
-        growTree();
+        cutTree.grow();
         return cutTree.leastOnWay(a, b);
     }
 
@@ -254,7 +254,7 @@ public final class CutAtlas {
         if (!net.isWhole()) {
             return STATE;
         }
-        growTree();
+        cutTree.grow();
         return cutTree.leastNumber();
     }
 
@@ -262,7 +262,7 @@ public final class CutAtlas {
         if (!net.isWhole()) {
             return STATE;
         }
-        growTree();
+        cutTree.grow();
         return hunt.countCuts(0, 1, cutTree.leastNumber());
     }
 
@@ -273,7 +273,7 @@ public final class CutAtlas {
         if (!net.isWhole()) {
             return STATE;
         }
-        growTree();
+        cutTree.grow();
         return hunt.findCut(0, 1, cutTree.leastNumber(), i);
     }
 
@@ -284,7 +284,7 @@ public final class CutAtlas {
         if (!net.isWhole() || net.isMissing(line)) {
             return STATE;
         }
-        growTree();
+        cutTree.grow();
         // A least cut of the whole goes through a line just if no cut between its ends is bigger.
         return cutTree.leastOnWay(net.starts[line], net.ends[line]) == cutTree.leastNumber() ? 1 : 0;
     }
@@ -299,7 +299,7 @@ public final class CutAtlas {
         if (place != -1 && !net.hasPlace(place)) {
             return BAD;
         }
-        growTree();
+        cutTree.grow();
         if (place == -1) {
             return cutTree.partsBelow(k, net.places);
         }
@@ -381,7 +381,8 @@ public final class CutAtlas {
                 if (came == 0) {
                     remember();
                 }
-                addLine(source.whole(r, 0), source.whole(r, 1), source.whole(r, 2), source.whole(r, 3), source.whole(r, 4));
+                addLine(source.whole(r, 0), source.whole(r, 1), source.whole(r, 2),
+                        source.whole(r, 3), source.whole(r, 4));
                 came++;
             }
         }
@@ -444,11 +445,6 @@ public final class CutAtlas {
         return current.fill(s, t);
     }
 
-    private void growTree() {
-        current.load(NONE);
-        cutTree.grow();
-    }
-
     private static boolean isMapNumber(int map) {
         return map >= 0 && map < MAX_MAPS;
     }
@@ -504,7 +500,8 @@ public final class CutAtlas {
             return INDEX;
         }
         // As longs, so that a number beyond an int is BAD by the bounds of a line's own numbers.
-        return lineRefusal(source.number(r, 0), source.number(r, 1), source.number(r, 2), source.number(r, 3), source.number(r, 4));
+        return lineRefusal(source.number(r, 0), source.number(r, 1), source.number(r, 2),
+                source.number(r, 3), source.number(r, 4));
     }
 
     /** A LINE: what it does, other kinds do too that have nothing of their own; marks are what the trace has of it. */
@@ -963,7 +960,9 @@ public final class CutAtlas {
             this.current = current;
         }
 
+        /** From the net as it is now. */
         void grow() {
+            current.load(NONE);
             Arrays.fill(nexts, 0);
             nexts[0] = NONE;
             numbers[0] = NONE;

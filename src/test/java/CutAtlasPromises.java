@@ -1053,27 +1053,39 @@ public final class CutAtlasPromises {
     /** Every call with every mix of a few numbers, most of them wrong, on an empty object and on others. */
     private static void neverThrows() throws Exception {
         promise = 0;
-        CutAtlas full = withPlaces(12);
-        for (int i = 0; i < 40; i++) {
-            full.line(i % 5, i % 12, (i + 1 + i / 12) % 12, i * 25, i);
-        }
-        CutAtlas maps = square();
-        maps.map(0, 0, 6);
-        maps.map(1, 1, 0);
-        maps.map(2, 2, 2);
-        maps.row(2, 1, 5);
-        for (CutAtlas x : new CutAtlas[] {new CutAtlas(), full, maps, withPlaces(2), pair(0, 1, 2, 3, 4)}) {
-            for (Method method : CutAtlas.class.getMethods()) {
-                if (method.getDeclaringClass() == CutAtlas.class && !Modifier.isStatic(method.getModifiers())) {
+        for (Method method : CutAtlas.class.getMethods()) {
+            if (method.getDeclaringClass() == CutAtlas.class && !Modifier.isStatic(method.getModifiers())) {
+                for (CutAtlas x : manyStates()) {
                     callAll(x, method);
                 }
             }
         }
     }
 
+    private static CutAtlas[] manyStates() {
+        CutAtlas maps = square();
+        maps.map(0, 0, 6);
+        maps.map(1, 1, 0);
+        maps.map(2, 2, 2);
+        maps.row(2, 1, 5);
+        return new CutAtlas[] {
+            new CutAtlas(), full(LINE, ONEWAY, STRONG, DEAR, SHUT), full(LINE, DEAR, SHUT), maps, withPlaces(2), pair(0, 1, 2, 3, 4)
+        };
+    }
+
+    private static CutAtlas full(int... kinds) {
+        CutAtlas x = withPlaces(12);
+        for (int i = 0; i < 40; i++) {
+            x.line(kinds[i % kinds.length], i % 12, (i + 1 + i / 12) % 12, i * 25, i);
+        }
+        return x;
+    }
+
     private static void callAll(CutAtlas x, Method method) throws Exception {
-        int[] numbers = {0, MIN, -1, 1, MAX, 12};
         int many = method.getParameterCount();
+        int[] few = {0, MIN, -1, 1, MAX, 12};
+        int[] several = {0, MIN, -1, 1, MAX, 12, 2, 3, 4, 5, 11, 39, 40};
+        int[] numbers = many > 3 ? few : several;
         int[] at = new int[many];
         boolean more = true;
         while (more) {
