@@ -70,6 +70,8 @@ public final class CutAtlas {
             return refusal;
         }
         remember();
+        // Here and not in addLine(): the trace has what line() does, and read() is not named there.
+        traced += kinds[kind].beginsMark();
         return addLine(kind, a, b, width, price);
     }
 
@@ -240,6 +242,10 @@ public final class CutAtlas {
     }
 
     public int between(int a, int b) {
+        // STATE is ahead only of whether there are such places, not of whether they are the same.
+        if (a == b) {
+            return BAD;
+        }
         if (!net.isWhole()) {
             return STATE;
         }
@@ -436,7 +442,6 @@ public final class CutAtlas {
     }
 
     private int addLine(int kind, int a, int b, int width, int price) {
-        traced += kinds[kind].beginsMark();
         return net.append(kind, a, b, kinds[kind].begins(width), price);
     }
 

@@ -396,7 +396,6 @@ public final class CutAtlasAgainstModel {
             w.b = b;
             w.width = kind == 4 ? 0 : width;
             w.price = price;
-            trace += kind == 4 ? 1000000 : 0;
             lines.add(w);
         }
 
@@ -407,6 +406,7 @@ public final class CutAtlasAgainstModel {
             }
             save();
             come(kind, a, b, width, price);
+            trace += kind == 4 ? 1000000 : 0;
             return lines.size() - 1;
         }
 
@@ -765,7 +765,7 @@ public final class CutAtlasAgainstModel {
         }
 
         int between(int a, int b) {
-            return !isWhole() ? -2 : most(a, b);
+            return a == b ? -1 : !isWhole() ? -2 : most(a, b);
         }
 
         List<Integer> itsCuts() {

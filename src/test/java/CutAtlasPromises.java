@@ -611,6 +611,8 @@ public final class CutAtlasPromises {
         x.line(STRONG, 0, 1, 1, 0);
         due("STATE", x.between(0, 1), STATE);
         due("STATE ahead of the place", x.between(0, 4), STATE);
+        due("the same ahead of STATE", x.between(1, 1), BAD);
+        due("the same ahead of STATE", new CutAtlas().between(0, 0), BAD);
         CutAtlas y = square();
         for (int a = 0; a < 4; a++) {
             for (int b = 0; b < a; b++) {
@@ -1003,15 +1005,15 @@ public final class CutAtlasPromises {
         x.undo();
         x.undo();
         due("trace() stays", x.trace(), 1110000);
-        // Rows are read as lines, so what line() does to the trace, read() does.
+        // The document names ask(), line() and widen(), not read().
         x.map(0, 0, 1);
         fillRow(x, 0, 0, 0, SHUT, 0, 1, 9, 7);
         x.read(0);
-        due("trace() of read", x.trace(), 2110000);
+        due("trace() of read", x.trace(), 1110000);
         for (int i = 0; i < 400; i++) {
             x.ask(2, 2);
         }
-        due("trace()", x.trace(), 2110000 + 400 * 110000L);
+        due("trace()", x.trace(), 1110000 + 400 * 110000L);
     }
 
     private static void status() {
