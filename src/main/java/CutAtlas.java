@@ -242,10 +242,7 @@ public final class CutAtlas {
     }
 
     public int between(int a, int b) {
-        // STATE is ahead only of whether there are such places, not of whether they are the same.
-        if (a == b) {
-            return BAD;
-        }
+        // STATE is ahead of all that is wrong with the places, of the same one twice too.
         if (!net.isWhole()) {
             return STATE;
         }

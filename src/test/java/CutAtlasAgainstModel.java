@@ -765,7 +765,7 @@ public final class CutAtlasAgainstModel {
         }
 
         int between(int a, int b) {
-            return a == b ? -1 : !isWhole() ? -2 : most(a, b);
+            return !isWhole() ? -2 : most(a, b);
         }
 
         List<Integer> itsCuts() {

@@ -611,8 +611,13 @@ public final class CutAtlasPromises {
         x.line(STRONG, 0, 1, 1, 0);
         due("STATE", x.between(0, 1), STATE);
         due("STATE ahead of the place", x.between(0, 4), STATE);
-        due("the same ahead of STATE", x.between(1, 1), BAD);
-        due("the same ahead of STATE", new CutAtlas().between(0, 0), BAD);
+        due("STATE ahead of the same", x.between(1, 1), STATE);
+        due("STATE ahead of the same, not there", x.between(-1, -1), STATE);
+        due("STATE of no places", new CutAtlas().between(1, 1), STATE);
+        due("STATE of one place", withPlaces(1).between(0, 0), STATE);
+        x.merge(0, 1);
+        due("the strong line is missing", x.between(1, 1), BAD);
+        due("the strong line is missing", x.between(0, 1), 3);
         CutAtlas y = square();
         for (int a = 0; a < 4; a++) {
             for (int b = 0; b < a; b++) {
