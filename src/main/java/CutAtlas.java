@@ -728,7 +728,7 @@ public final class CutAtlas {
             int met = 1 << s;
             int tail = 1;
             queue[0] = s;
-            for (int head = 0; head < tail; head++) {
+            for (int head = 0; head < tail && head < MAX_PLACES; head++) {
                 int x = queue[head];
                 for (int y = 0; y < net.places; y++) {
                     if ((met >> y & 1) == 0 && room[x][y] > 0) {
@@ -789,7 +789,7 @@ public final class CutAtlas {
             int met = 1 << s;
             int tail = 1;
             queue[0] = s;
-            for (int head = 0; head < tail; head++) {
+            for (int head = 0; head < tail && head < MAX_PLACES; head++) {
                 for (int y = 0; y < net.places; y++) {
                     if ((met >> y & 1) == 0 && room[queue[head]][y] >= needed) {
                         met |= 1 << y;
@@ -805,7 +805,7 @@ public final class CutAtlas {
             int met = 1 << t;
             int tail = 1;
             queue[0] = t;
-            for (int head = 0; head < tail; head++) {
+            for (int head = 0; head < tail && head < MAX_PLACES; head++) {
                 for (int x = 0; x < net.places; x++) {
                     if ((met >> x & 1) == 0 && room[x][queue[head]] > 0) {
                         met |= 1 << x;
