@@ -30,6 +30,7 @@ public final class BoundsOfTwoPlaces {
         cheapestNone();
         cheapestDearest();
         cheapestAsOftenAsItLikes();
+        cheapestGivesBackWhatWasWidened();
         System.out.println(wrong == 0 ? "all bounds of two places are as due" : wrong + " answers are not as due");
         if (wrong != 0) {
             System.exit(1);
@@ -536,5 +537,20 @@ public final class BoundsOfTwoPlaces {
         due("cheapest(0, 2, 500)", x.cheapest(0, 2, 500), 4 + 496 * 4);
         due("about(3): nothing was widened", x.about(3), 6);
         due("told(1, 3): nothing was widened", x.told(1, 3), 3);
+    }
+
+    private static void cheapestGivesBackWhatWasWidened() {
+        says("2: CHEAPEST from s to t for a number k: the least sum of COSTS");
+        // For 2 the line 1-2 is widened by one; from 3 on that one is not needed, and it is no more than one.
+        CutAtlas x = withPlaces(4);
+        x.line(LINE, 0, 1, 2, 0);
+        x.line(DEAR, 1, 2, 1, 1);
+        x.line(LINE, 2, 3, 2, 0);
+        x.line(DEAR, 0, 2, 0, 10);
+        x.line(DEAR, 1, 3, 0, 10);
+        int[] want = {0, 0, 1, 20, 40, 60, 81, 102};
+        for (int k = 0; k < want.length; k++) {
+            due("cheapest(0, 3, " + k + ")", x.cheapest(0, 3, k), want[k]);
+        }
     }
 }

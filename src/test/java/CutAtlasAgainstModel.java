@@ -5,8 +5,11 @@ import java.util.Random;
 
 /** Random runs of calls (always the same ones), each answer beside that of a model that tries all sets of places. */
 public final class CutAtlasAgainstModel {
-    private static final int RUNS = 1500;
+    private static final int RUNS = 2000;
     private static final int ENDLESS_ROOM = 1000000;
+    // One step of a run asks no more than this at once: what flows over each line, with trace() and status().
+    private static final int MAX_CALLS_OF_A_STEP = 43;
+    private static final int MAX_CALLS = 512;
     private static int wrong = 0;
 
     public static void main(String[] args) {
@@ -15,6 +18,9 @@ public final class CutAtlasAgainstModel {
         }
         for (int run = 0; run < 400 && wrong < 20; run++) {
             tryCheapest(run);
+        }
+        for (int run = 0; run < 600 && wrong < 20; run++) {
+            cheapestWithTurns(run);
         }
         System.out.println(wrong == 0 ? "all answers are as the model's" : wrong + " answers are not as the model's");
         if (wrong != 0) {
@@ -57,6 +63,40 @@ public final class CutAtlasAgainstModel {
         }
     }
 
+    /** CHEAPEST of nets where what was widened for a few is given back for more of them. */
+    private static void cheapestWithTurns(int seed) {
+        Random random = new Random(seed);
+        CutAtlas atlas = new CutAtlas();
+        Model model = new Model();
+        int places = 4 + random.nextInt(3);
+        for (int i = 0; i < places; i++) {
+            atlas.place();
+            model.place();
+        }
+        for (int x = 2; x < places; x++) {
+            for (int end = 0; end < 2; end++) {
+                bothLine(atlas, model, random.nextInt(2), end == 0 ? 0 : x, end == 0 ? x : 1, random.nextInt(4), 0);
+                bothLine(atlas, model, 3 + random.nextInt(2), x, end, random.nextInt(2), 8 + random.nextInt(12));
+            }
+            for (int y = 2; y < x; y++) {
+                bothLine(atlas, model, 3, x, y, random.nextInt(3), random.nextInt(4));
+            }
+        }
+        for (int k = 0; k <= 40; k++) {
+            int got = atlas.cheapest(0, 1, k);
+            int due = model.cheapest(0, 1, k);
+            if (got != due) {
+                wrong++;
+                System.out.println("net of turns " + seed + ": cheapest(0, 1, " + k + ") answered " + got + ", due is " + due);
+            }
+        }
+    }
+
+    private static void bothLine(CutAtlas atlas, Model model, int kind, int a, int b, int width, int price) {
+        atlas.line(kind, a, b, width, price);
+        model.line(kind, a, b, width, price);
+    }
+
     private static final class Run {
         final int number;
         final Random random;
@@ -65,6 +105,7 @@ public final class CutAtlasAgainstModel {
         final int places;
         final int widest;
         final boolean whole;
+        int asked = 0;
 
         Run(int number) {
             this.number = number;
@@ -83,7 +124,7 @@ public final class CutAtlasAgainstModel {
                 someLine();
             }
             int calls = places > 10 ? 60 : 150;
-            for (int i = 0; i < calls && wrong < 20; i++) {
+            for (int i = 0; i < calls && wrong < 20 && asked + MAX_CALLS_OF_A_STEP <= MAX_CALLS; i++) {
                 call(random.nextInt(40));
                 due("trace()", atlas.trace(), model.trace);
                 due("status()", atlas.status(), model.status);
@@ -91,6 +132,7 @@ public final class CutAtlasAgainstModel {
         }
 
         void due(String call, long got, long want) {
+            asked++;
             if (got != want) {
                 wrong++;
                 System.out.println("run " + number + ": " + call + " answered " + got + ", due is " + want);

@@ -32,6 +32,10 @@ public final class CutAtlasForm {
         lookAtMethods();
         lookAtFields();
         lookAtConstructors();
+        lookAtSizes(CutAtlas.class);
+        for (Class<?> inside : CutAtlas.class.getDeclaredClasses()) {
+            lookAtSizes(inside);
+        }
         lookAtWords();
         System.out.println(wrong == 0 ? "the form is as due" : wrong + " things are not as due");
         if (wrong != 0) {
@@ -112,8 +116,31 @@ public final class CutAtlasForm {
         }
     }
 
+    /** Rules 5 and 11. */
+    private static void lookAtSizes(Class<?> type) {
+        int fields = 0;
+        for (Field field : type.getDeclaredFields()) {
+            if (!Modifier.isStatic(field.getModifiers())) {
+                fields++;
+            } else if (!Modifier.isFinal(field.getModifiers())) {
+                fault("static and not final: " + field);
+            }
+        }
+        if (fields > 20) {
+            fault(type + " has " + fields + " fields");
+        }
+        for (Method method : type.getDeclaredMethods()) {
+            if (method.getParameterCount() > 7) {
+                fault("more than seven parameters: " + method);
+            }
+        }
+    }
+
     private static void lookAtWords() throws Exception {
         String source = Files.readString(Path.of("src/main/java/CutAtlas.java"));
+        if (!source.replaceFirst("import java\\.util\\.Arrays;", "").equals(source.replaceAll("import [^\n]*;", ""))) {
+            fault("the source imports what is not listed");
+        }
         String code = source.replaceAll("(?s)/\\*.*?\\*/", "").replaceAll("//[^\n]*", "");
         for (String word : RULED_OUT) {
             boolean isWord = Character.isLetter(word.charAt(0)) && Character.isLetter(word.charAt(word.length() - 1));
