@@ -22,9 +22,48 @@ public final class CutAtlasAgainstModel {
         for (int run = 0; run < 600 && wrong < 20; run++) {
             cheapestWithTurns(run);
         }
+        for (int run = 0; run < 300 && wrong < 20; run++) {
+            betweenIsMost(run);
+        }
         System.out.println(wrong == 0 ? "all answers are as the model's" : wrong + " answers are not as the model's");
         if (wrong != 0) {
             System.exit(1);
+        }
+    }
+
+    /** What THE TREE tells of two PLACES is MOST, in nets as large as can be, where places exchange theirs. */
+    private static void betweenIsMost(int seed) {
+        Random random = new Random(seed);
+        CutAtlas atlas = new CutAtlas();
+        int places = 9 + random.nextInt(4);
+        for (int i = 0; i < places; i++) {
+            atlas.place();
+        }
+        int widest = 1 + random.nextInt(10);
+        for (int i = 0; i < 40; i++) {
+            int a = random.nextInt(places);
+            int b = (a + 1 + random.nextInt(places - 1)) % places;
+            atlas.line(3 * random.nextInt(2), a, b, random.nextInt(widest + 1), 0);
+        }
+        int least = Integer.MAX_VALUE;
+        for (int a = 0; a < places; a++) {
+            for (int b = 0; b < a; b++) {
+                int most = atlas.most(b, a);
+                least = Math.min(least, most);
+                betweenDue(seed, atlas.between(a, b), most, a, b);
+                betweenDue(seed, atlas.between(b, a), most, b, a);
+            }
+        }
+        if (atlas.least() != least) {
+            wrong++;
+            System.out.println("large net " + seed + ": least() is not " + least);
+        }
+    }
+
+    private static void betweenDue(int seed, int got, int due, int a, int b) {
+        if (got != due) {
+            wrong++;
+            System.out.println("large net " + seed + ": between(" + a + ", " + b + ") answered " + got + ", due is " + due);
         }
     }
 

@@ -21,7 +21,10 @@ public final class CutAtlasForm {
         "int copy(int,int,int,int,int,int)", "long item(int,int,int,int)", "int read(int)", "int about(int)",
         "long trace()", "int status()"
     };
-    private static final String[] CONSTANTS = {"BAD", "STATE", "FULL", "NONE", "NULL", "INDEX", "CAST", "SIZE", "ENDLESS"};
+    private static final String[] CONSTANTS = {
+        "BAD = -1", "STATE = -2", "FULL = -3", "NONE = -9", "NULL = -11", "INDEX = -12", "CAST = -13", "SIZE = -15",
+        "ENDLESS = -5"
+    };
     private static final String[] RULED_OUT = {
         "throw", "throws", "try", "catch", "finally", "synchronized", "assert", "->", "::", "package", "hashCode",
         "toString", "volatile", "native", "@Override", "Exact\\("
@@ -87,11 +90,11 @@ public final class CutAtlasForm {
                 + " " + method.getName() + "(" + text + ")";
     }
 
-    private static void lookAtFields() {
+    private static void lookAtFields() throws Exception {
         Set<String> due = new TreeSet<>(Arrays.asList(CONSTANTS));
         for (Field field : CutAtlas.class.getDeclaredFields()) {
             int modifiers = field.getModifiers();
-            if (!Modifier.isPrivate(modifiers) && !due.remove(field.getName())) {
+            if (!Modifier.isPrivate(modifiers) && !due.remove(told(field))) {
                 fault("not of the face: " + field);
             }
             if (Modifier.isStatic(modifiers) && !Modifier.isFinal(modifiers)) {
@@ -101,6 +104,12 @@ public final class CutAtlasForm {
         for (String constant : due) {
             fault("missing: " + constant);
         }
+    }
+
+    private static String told(Field field) throws Exception {
+        boolean isConstant = Modifier.isPublic(field.getModifiers()) && Modifier.isStatic(field.getModifiers());
+        boolean isInt = field.getType() == int.class;
+        return isConstant && isInt ? field.getName() + " = " + field.getInt(null) : "no constant: " + field;
     }
 
     private static void lookAtConstructors() {
